@@ -566,6 +566,9 @@ public final class BorrowedPages {
 
         int scoreOf(Shelf shelf, int a, int b, int turn) {
             compare(shelf, a, b, turn);
+            if (runCount == 0) {
+                return 0;
+            }
             findBest(shelf.gapCost);
             return best[0];
         }

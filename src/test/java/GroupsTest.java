@@ -57,6 +57,15 @@ public final class GroupsTest {
         pages.withdraw(2);
         dueGroups(pages, 0, NOT, NOT, 3, 4, 5);
         check.due("group -1", pages.group(-1), BAD);
+        // 0 - 3, then 1 - 2, then 2 - 3: two groups that come together late.
+        write(pages, 0, 0, "abcdefgh");
+        write(pages, 1, 0, "qrstuvwx");
+        write(pages, 2, 0, "ijklmnopqrstuvwx");
+        write(pages, 3, 0, "abcdefghijklmnop");
+        write(pages, 4, 0, "");
+        write(pages, 5, 0, "");
+        dueGroups(pages, 0, 0, 0, 0, 4, 5);
+        dueCounts(pages, 6, 3, 2, 3);
         check.due("group 6", pages.group(6), BAD);
     }
 

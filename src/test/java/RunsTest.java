@@ -87,6 +87,7 @@ public final class RunsTest {
         check.dueAside(oneSided, 0, "111000");
         check.dueAside(oneSided, 1, "00000");
         check.dueRuns(oneSided, 0, 1, run(4, 0, 2));
+        check.dueRuns(oneSided, 1, 0, run(0, 4, 2));
     }
 
     private static void promise14Run() {

@@ -35,12 +35,16 @@ public final class TextsTest {
         check.due("new: gap", pages.gap(2), 2);
         check.due("new: link", pages.link(8), 8);
         check.due("new: tape", pages.book(0, 0, 0), 0);
+        Check.writeLetters(pages, 1, "abcdefgh");
+        // K = 3 and W = 4: six grams that rise, and so three windows with a mark each.
+        check.dueMarks(pages, 1, 0, 1, 2);
     }
 
     private static void promise2Type() {
         BorrowedPages pages = new BorrowedPages();
         check.due("type n 0", pages.type('a', 0), BAD);
         check.due("type n 9", pages.type('a', 9), BAD);
+        check.due("type n 9 of good bytes", pages.type(Check.packed("abcdefgh"), 9), BAD);
         check.due("type n least", pages.type('a', Integer.MIN_VALUE), BAD);
         check.due("type n greatest", pages.type('a', Integer.MAX_VALUE), BAD);
         check.due("type byte 31", pages.type(31, 1), BAD);
