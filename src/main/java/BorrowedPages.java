@@ -117,12 +117,13 @@ public final class BorrowedPages {
     }
 
     public int hash(int book, int gram) {
-        int refusal = gram < 0 ? BAD : refusalOfBook(book);
+        int refusal = refusalOfBook(book);
         if (refusal != FINE) {
             return refusal;
         }
         Page page = comparison.pageOf(shelf, book);
-        return gram < page.grams ? page.hashes[gram] : NONE;
+        // NONE is hash's own word for a gram that there is not, so a number below 0 is not BAD here.
+        return gram >= 0 && gram < page.grams ? page.hashes[gram] : NONE;
     }
 
     public int markAt(int book, int i) {

@@ -24,12 +24,16 @@ public final class MarksTest {
         check.due("hash 1", pages.hash(1, 1), Check.hash(2, 3, 26));
         check.due("hash 2", pages.hash(1, 2), NONE);
         check.due("hash greatest", pages.hash(1, Integer.MAX_VALUE), NONE);
-        check.due("hash -1", pages.hash(1, -1), BAD);
+        check.due("hash -1", pages.hash(1, -1), NONE);
+        check.due("hash least", pages.hash(1, Integer.MIN_VALUE), NONE);
         check.due("hash of -1", pages.hash(-1, 0), BAD);
         check.due("hash of 6", pages.hash(6, 0), BAD);
         check.due("hash of nothing", pages.hash(0, 0), NOT);
         check.due("hash of nothing, 100", pages.hash(0, 100), NOT);
-        check.due("hash -1 of nothing", pages.hash(0, -1), BAD);
+        check.due("hash -1 of nothing", pages.hash(0, -1), NOT);
+        check.due("hash least of nothing", pages.hash(0, Integer.MIN_VALUE), NOT);
+        check.due("hash -1 of -1", pages.hash(-1, -1), BAD);
+        check.due("hash -1 of 6", pages.hash(6, -1), BAD);
         Check.writeLetters(pages, 0, "ab");
         check.due("hash of less than K", pages.hash(0, 0), NONE);
         pages.windows(2, 4);

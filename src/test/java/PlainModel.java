@@ -134,11 +134,11 @@ final class PlainModel {
     // ---- 2 marks, runs, chains
 
     int hash(int book, int gram) {
-        if (gram < 0 || refusal(book) != 0) {
-            return gram < 0 ? BAD : refusal(book);
+        if (refusal(book) != 0) {
+            return refusal(book);
         }
         List<Integer> hashes = hashes(books[book]);
-        return gram < hashes.size() ? hashes.get(gram) : NONE;
+        return gram >= 0 && gram < hashes.size() ? hashes.get(gram) : NONE;
     }
 
     int markAt(int book, int i) {
