@@ -1,7 +1,9 @@
 import java.math.BigInteger;
+import java.util.stream.IntStream;
+import java.util.stream.Stream;
 
 /** What every test of the project uses: texts onto the tape, and answers beside those that are due. */
-final class Check {
+class Check {
     static final int PROSE = 0, CODE = 1;
 
     private int asked = 0;
@@ -87,6 +89,47 @@ final class Check {
     /** A book of PROSE, each letter of the text one word, of day 0. */
     static int writeLetters(BorrowedPages pages, int book, String letters) {
         return write(pages, book, PROSE, 0, String.join(" ", letters.split("")));
+    }
+
+    /** A shelf with these K and W, and books 0, 1, .. of PROSE, each letter of a text one word. */
+    static BorrowedPages letters(int k, int w, String... books) {
+        BorrowedPages pages = new BorrowedPages();
+        pages.windows(k, w);
+        for (int book = 0; book < books.length; book++) {
+            writeLetters(pages, book, books[book]);
+        }
+        return pages;
+    }
+
+    /** A shelf with K = 2 and W = 1, and books 0 and 1 of words that are told by their numbers. */
+    static BorrowedPages wordBooks(int[] first, int[] second) {
+        BorrowedPages pages = new BorrowedPages();
+        pages.windows(2, 1);
+        write(pages, 0, PROSE, 0, words(first));
+        write(pages, 1, PROSE, 0, words(second));
+        return pages;
+    }
+
+    /** A run as dueRuns() takes it. */
+    static int[] run(int i, int j, int n) {
+        return new int[] {i, j, n};
+    }
+
+    /** PROSE of words that are told by their numbers (0 .. 675), each number another TOKEN. */
+    static String words(int... numbers) {
+        StringBuilder text = new StringBuilder();
+        for (int number : numbers) {
+            text.append((char) ('a' + number / 26)).append((char) ('a' + number % 26)).append(' ');
+        }
+        return text.toString();
+    }
+
+    static int[] upTo(int from, int end) {
+        return IntStream.range(from, end).toArray();
+    }
+
+    static int[] joined(int[]... parts) {
+        return Stream.of(parts).flatMapToInt(IntStream::of).toArray();
     }
 
     /** The PROSE token of a word, reckoned apart from the class. */
