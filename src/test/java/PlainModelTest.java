@@ -3,7 +3,10 @@ import java.util.Random;
 /** Long runs of calls, the same each time, on the class and on the plain model of the document. */
 public final class PlainModelTest {
     private static final int RUNS = 250;
+    /** What an object answers after so many calls is free, so no run asks for more. */
     private static final int CALLS = 512;
+    private static final int LONGEST_TEXT = 244;
+    private static final int MOST_CALLS_OF_A_BOOK = (LONGEST_TEXT + 7) / 8 + 1;
     private static final String[] PROSE_WORDS = {"a", "b", "c", "the", "The", "page", "pages9", "pages97", "x1", "77", ",", ""};
     private static final String[] CODE_WORDS = {"if", "For", "fn", "let", "end", "x", "y1", "3", "44", "=", "(", "if4", "4if", "~"};
 
@@ -36,6 +39,7 @@ public final class PlainModelTest {
         while (calls < CALLS) {
             step();
         }
+        check.due("calls of the object of seed " + seed, calls, CALLS);
     }
 
     private void due(String call, long got, long want) {
@@ -45,7 +49,7 @@ public final class PlainModelTest {
 
     private void step() {
         int kind = random.nextInt(40);
-        if (kind < 3) {
+        if (kind < 3 && calls + MOST_CALLS_OF_A_BOOK <= CALLS) {
             writeBook(random.nextInt(6));
         } else if (kind < 10) {
             change();
@@ -97,7 +101,7 @@ public final class PlainModelTest {
     }
 
     private static String cut(String text) {
-        return text.substring(0, Math.min(text.length(), 244));
+        return text.substring(0, Math.min(text.length(), LONGEST_TEXT));
     }
 
     /** A number of 0 .. bound - 1, or one about its ends, or far away. */
